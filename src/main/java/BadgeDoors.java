@@ -227,7 +227,14 @@ public final class BadgeDoors {
             return FAULT_AT_FIRST_BYTE - fault;
         }
         keepState();
-        return doOrders();
+        int done = 0;
+        text.restart();
+        for (int k = 0; k < MOST_BYTES && text.hasMore() && text.takeOrder(); k++) {
+            if (doOrder(text.word, text.numbers)) {
+                done++;
+            }
+        }
+        return done;
     }
 
     public int back() {
@@ -316,17 +323,6 @@ public final class BadgeDoors {
     }
 
     // ---- ORDERS
-
-    private int doOrders() {
-        int done = 0;
-        text.restart();
-        for (int k = 0; k < MOST_BYTES && text.hasMore() && text.takeOrder(); k++) {
-            if (doOrder(text.word, text.numbers)) {
-                done++;
-            }
-        }
-        return done;
-    }
 
     /** False, if the ORDER is passed over. */
     private boolean doOrder(int word, int[] n) {
@@ -582,7 +578,27 @@ public final class BadgeDoors {
             return what == 0 ? noteTimes[place] : noteBadges[place];
         }
 
-        void forgetWaiting() {
+        boolean anotherWaits(int d, int b) {
+            return waiting[d] != NONE && waiting[d] != b;
+        }
+
+        void startWaiting(int d, int b) {
+            if (waiting[d] == NONE) {
+                waiting[d] = b;
+            }
+        }
+
+        /** The one that is let with another: none without PAIR, where one may WAIT from before. */
+        int endWaiting(int d) {
+            if (pair[d] == 0) {
+                return NONE;
+            }
+            int second = waiting[d];
+            waiting[d] = NONE;
+            return second;
+        }
+
+        void endAllWaiting() {
             for (int d = 0; d < many; d++) {
                 waiting[d] = NONE;
             }
@@ -678,49 +694,37 @@ public final class BadgeDoors {
     /** PASSED: each two of a BADGE and a DOOR, in the order in which they first came. */
     static final class Twos {
         int many;
-        final int[] badges = new int[MOST_TWOS];
-        final int[] doors = new int[MOST_TWOS];
-        final int[] times = new int[MOST_TWOS];
+        /** The two that came i-th: its place in the other row. */
+        private final int[] order = new int[MOST_TWOS];
+        private final int[] times = new int[MOST_TWOS];
 
         void copyFrom(Twos other) {
             many = other.many;
-            copyRow(other.badges, badges, many);
-            copyRow(other.doors, doors, many);
-            copyRow(other.times, times, many);
+            copyRow(other.order, order, many);
+            copyRow(other.times, times, MOST_TWOS);
         }
 
         void add(int b, int d) {
-            int i = placeOf(b, d);
-            if (i < many) {
-                times[i]++;
-            } else if (i < MOST_TWOS) {
-                badges[i] = b;
-                doors[i] = d;
-                times[i] = 1;
-                many = i + 1;
+            int two = b * MOST_DOORS + d;
+            if (times[two] == 0 && many < MOST_TWOS) {
+                order[many] = two;
+                many++;
             }
-        }
-
-        /** Behind the last one, if these two never came. */
-        private int placeOf(int b, int d) {
-            int i = 0;
-            while (i < many && (badges[i] != b || doors[i] != d)) {
-                i++;
-            }
-            return i;
+            times[two]++;
         }
 
         int fact(int i, int what) {
             if (i >= many) {
                 return NONE;
             }
+            int two = order[i];
             switch (what) {
                 case 0:
-                    return badges[i];
+                    return two / MOST_DOORS;
                 case 1:
-                    return doors[i];
+                    return two % MOST_DOORS;
                 default:
-                    return times[i];
+                    return times[two];
             }
         }
     }
@@ -789,12 +793,12 @@ public final class BadgeDoors {
         }
 
         private int hour() {
-            return Math.floorMod(time, HOURS);
+            return time % HOURS;
         }
 
         int letTimeGoBy(int n) {
             time += n;
-            doors.forgetWaiting();
+            doors.endAllWaiting();
             return hour();
         }
 
@@ -809,64 +813,34 @@ public final class BadgeDoors {
         }
 
         int ask(int b, int d, int duress) {
-            int outcome = doors.isOnline[d] == 1 ? askOnline(b, d) : askOffline(b, d);
+            boolean isOnline = doors.isOnline[d] == 1;
+            int outcome = isOnline ? decideOnline(b, d) : decideOffline(b, d);
+            if (outcome == ALONE) {
+                doors.startWaiting(d, b);
+            }
             if (outcome != LET) {
                 outcomes[outcome]++;
-            } else if (duress == 1) {
-                alarms++;
-                badges.alarms[b]++;
+                return outcome;
             }
-            return outcome;
-        }
-
-        private int askOnline(int b, int d) {
-            int outcome = decideOnline(b, d);
-            if (outcome == ALONE && doors.waiting[d] == NONE) {
-                doors.waiting[d] = b;
+            if (duress == 1) {
+                raiseAlarm(b);
             }
-            if (outcome == LET) {
-                let(b, d);
-                letWaiting(d);
-            }
-            return outcome;
-        }
-
-        private int decideOnline(int b, int d) {
-            if (isShut(d)) {
-                return SHUT;
-            }
-            if (doors.to[d] == OUTSIDE) {
+            if (!isOnline) {
+                doors.addNote(d, b, time);
+                goThrough(b, d);
                 return LET;
             }
-            if (badges.barred[b] == 1) {
-                return BARRED;
+            let(b, d);
+            int second = doors.endWaiting(d);
+            if (second != NONE) {
+                let(second, d);
             }
-            if (badges.level[b] < levelNow(d)) {
-                return LOW;
-            }
-            if (doors.back[d] == HARD && badges.in[b] != doors.from[d]) {
-                return TWICE;
-            }
-            return doors.pair[d] == 1 && !anotherWaits(b, d) ? ALONE : LET;
+            return LET;
         }
 
-        private boolean isShut(int d) {
-            int other = doors.lock[d];
-            return other != NONE && isOpen(other);
-        }
-
-        private boolean anotherWaits(int b, int d) {
-            int waiting = doors.waiting[d];
-            return waiting != NONE && waiting != b;
-        }
-
-        /** One may still WAIT where PAIR is no more: it is let only with PAIR. */
-        private void letWaiting(int d) {
-            int waiting = doors.waiting[d];
-            if (doors.pair[d] == 1 && waiting != NONE) {
-                let(waiting, d);
-                doors.waiting[d] = NONE;
-            }
+        private void raiseAlarm(int b) {
+            alarms++;
+            badges.alarms[b]++;
         }
 
         private void let(int b, int d) {
@@ -889,13 +863,28 @@ public final class BadgeDoors {
             twos.add(b, d);
         }
 
-        private int askOffline(int b, int d) {
-            int outcome = decideOffline(b, d);
-            if (outcome == LET) {
-                doors.addNote(d, b, time);
-                goThrough(b, d);
+        private int decideOnline(int b, int d) {
+            if (isShut(d)) {
+                return SHUT;
             }
-            return outcome;
+            if (doors.to[d] == OUTSIDE) {
+                return LET;
+            }
+            if (badges.barred[b] == 1) {
+                return BARRED;
+            }
+            if (badges.level[b] < levelNow(d)) {
+                return LOW;
+            }
+            if (doors.back[d] == HARD && badges.in[b] != doors.from[d]) {
+                return TWICE;
+            }
+            return doors.pair[d] == 1 && !doors.anotherWaits(d, b) ? ALONE : LET;
+        }
+
+        private boolean isShut(int d) {
+            int other = doors.lock[d];
+            return other != NONE && isOpen(other);
         }
 
         private int decideOffline(int b, int d) {
