@@ -496,7 +496,10 @@ public final class BadgeDoors {
             copyRow(other.copyLevels, copyLevels, many * MOST_BADGES);
         }
 
-        /** Every place is set, as one that was taken back may have left something there. */
+        /**
+         * All that is told of it is set, as one that was taken back may have left something there;
+         * its COPY is, when it goes off.
+         */
         int add(int fromArea, int toArea, int day, int night) {
             int d = many;
             if (d >= MOST_DOORS) {
@@ -513,7 +516,6 @@ public final class BadgeDoors {
             openAt[d] = NONE;
             waiting[d] = NONE;
             notes[d] = 0;
-            copyMany[d] = 0;
             many = d + 1;
             return d;
         }
@@ -582,10 +584,9 @@ public final class BadgeDoors {
             return waiting[d] != NONE && waiting[d] != b;
         }
 
+        /** No other one WAITS there, or b were not ALONE. */
         void startWaiting(int d, int b) {
-            if (waiting[d] == NONE) {
-                waiting[d] = b;
-            }
+            waiting[d] = b;
         }
 
         /** The one that is let with another: none without PAIR, where one may WAIT from before. */

@@ -13,6 +13,7 @@ public final class TextsTest {
         aFaultDoesNothing();
         back();
         backBringsAllBack();
+        nothingStaysOfWhatWasTakenBack();
         told();
         digest();
         due.end();
@@ -235,6 +236,44 @@ public final class TextsTest {
         due.is("how often", x.count(5), 2);
         due.is("FLAWS", x.count(2), 0);
         due.is("refusals stay", refusalsStay(), 3);
+    }
+
+    /** Round by round other STATES hold what was taken back, so that each kind of leaving is seen. */
+    private static void nothingStaysOfWhatWasTakenBack() {
+        BadgeDoors x = new BadgeDoors();
+        int[] door = {1, 2, 1, 1, 0, 0, -1, 1, 0, -1, 0};
+        int[] badge = {2, 0, 0, 0, 0, 0};
+        for (int round = 0; round < 6; round++) {
+            Due.read(x, "door 0 1 0 0;door 1 0 0 0;badge 3;badge 3;wait 5;duress 0 0;ask 1 0;off 0;ask 0 0;bar 0;bar 1;");
+            x.sets(0, 0, 2);
+            x.sets(0, 1, 1);
+            x.locks(0, 1);
+            goBackAll(x);
+            for (int k = 0; k < round % 4; k++) {
+                x.waits(1);
+            }
+            goBackAll(x);
+            due.is("the DOOR", x.door(1, 2, 1, 1), 0);
+            due.is("the BADGE", x.badge(2), 0);
+            for (int what = 0; what < 11; what++) {
+                due.is("of(0, " + what + ")", x.of(0, what), door[what]);
+            }
+            for (int what = 0; what < 6; what++) {
+                due.is("about(0, " + what + ")", x.about(0, what), badge[what]);
+            }
+            for (int what = 0; what < 12; what++) {
+                due.is("count(" + what + ")", x.count(what), 0);
+            }
+            due.is("NOTES", x.note(0, 0, 0), BadgeDoors.NONE);
+            goBackAll(x);
+        }
+    }
+
+    private static void goBackAll(BadgeDoors x) {
+        int many = x.told(6);
+        for (int k = 0; k < many; k++) {
+            x.back();
+        }
     }
 
     private static int refusalsStay() {
