@@ -36,6 +36,33 @@ final class Due {
         return x.reads();
     }
 
+    /** The digest as it is due by what the other calls answer. */
+    static long digestByCalls(BadgeDoors x) {
+        long h = 2437;
+        for (int what = 0; what < 7; what++) {
+            h = 31 * h + x.told(what);
+        }
+        for (int d = 0; d < x.told(4); d++) {
+            for (int what = 0; what < 11; what++) {
+                h = 31 * h + x.of(d, what);
+            }
+        }
+        for (int b = 0; b < x.told(5); b++) {
+            for (int what = 0; what < 6; what++) {
+                h = 31 * h + x.about(b, what);
+            }
+        }
+        for (int what = 0; what < 12; what++) {
+            h = 31 * h + x.count(what);
+        }
+        for (int i = 0; i < x.count(11); i++) {
+            for (int what = 0; what < 3; what++) {
+                h = 31 * h + x.passed(i, what);
+            }
+        }
+        return h;
+    }
+
     void end() {
         System.out.println(wrong == 0 ? looked + " answers as due" : wrong + " of " + looked + " answers are not as due");
         if (wrong != 0) {
