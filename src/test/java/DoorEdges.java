@@ -23,17 +23,6 @@ final class DoorEdges {
         onlineRefused();
     }
 
-    private static BadgeDoors house(int doors, int badges) {
-        BadgeDoors x = new BadgeDoors();
-        for (int d = 0; d < doors; d++) {
-            x.door(0, 1, 0, 0);
-        }
-        for (int b = 0; b < badges; b++) {
-            x.badge(0);
-        }
-        return x;
-    }
-
     private void newObject() {
         e.at("Promise 1", "As told; no DOORS, no BADGES");
         BadgeDoors x = new BadgeDoors();
@@ -90,7 +79,7 @@ final class DoorEdges {
 
     private void doorRefused() {
         e.at("Promise 2", "BAD: FROM alike TO, too; FULL: 8");
-        BadgeDoors x = house(7, 1);
+        BadgeDoors x = Due.house(7, 1);
         e.badNumbers(x, new int[][] {{0, 5}, {1, 5}, {0, 3}, {0, 3}}, n -> x.door(n[0], n[1], n[2], n[3]));
         e.refused(x, "TO -1", BAD, () -> x.door(5, -1, 0, 0));
         for (int area = 0; area < 6; area++) {
@@ -106,7 +95,7 @@ final class DoorEdges {
 
     private void sets() {
         e.at("Promise 3", "BACK (what 0), PAIR (1) of a DOOR becomes v: what it was");
-        BadgeDoors x = house(8, 0);
+        BadgeDoors x = Due.house(8, 0);
         e.is("BACK of the first", x.sets(0, 0, 2), 0);
         e.is("BACK of it again", x.sets(0, 0, 2), 2);
         e.is("BACK of it is none", x.sets(0, 0, 0), 2);
@@ -122,13 +111,13 @@ final class DoorEdges {
         e.badNumbers(x, new int[][] {{0, 7}, {0, 1}, {0, 2}}, n -> x.sets(n[0], n[1], n[2]));
         e.refused(x, "PAIR 2", BAD, () -> x.sets(0, 1, 2));
         e.refused(x, "PAIR -1", BAD, () -> x.sets(0, 1, -1));
-        BadgeDoors y = house(1, 0);
+        BadgeDoors y = Due.house(1, 0);
         e.badNumbers(y, new int[][] {{0, 0}}, n -> y.sets(n[0], 1, 0));
     }
 
     private void locks() {
         e.at("Promise 4", "Two DOORS are LOCKS of one another (what either had as LOCK has none then)");
-        BadgeDoors x = house(8, 0);
+        BadgeDoors x = Due.house(8, 0);
         e.is("neither had one", x.locks(0, 7), NONE);
         e.is("0 and 7", x.of(0, 6), 7);
         e.is("7 and 0", x.of(7, 6), 0);
@@ -154,14 +143,14 @@ final class DoorEdges {
 
     private void locksRefused() {
         e.at("Promise 4", "BAD: alike, too");
-        BadgeDoors x = house(8, 0);
+        BadgeDoors x = Due.house(8, 0);
         for (int door = 0; door < 8; door++) {
             int d = door;
             e.refused(x, "alike " + d, BAD, () -> x.locks(d, d));
         }
         e.badNumbers(x, new int[][] {{0, 7}, {NONE, 7}}, n -> x.locks(n[0], n[1]));
         e.refused(x, "alike, and no DOOR", BAD, () -> x.locks(NONE, NONE));
-        BadgeDoors y = house(2, 0);
+        BadgeDoors y = Due.house(2, 0);
         y.locks(0, 1);
         e.refused(y, "e is not there yet", BAD, () -> y.locks(0, 2));
         e.refused(y, "d is not there yet", BAD, () -> y.locks(2, 0));
@@ -194,7 +183,7 @@ final class DoorEdges {
 
     private void levels() {
         e.at("Promise 6", "LEVEL of a BADGE becomes v: what it was");
-        BadgeDoors x = house(0, 8);
+        BadgeDoors x = Due.house(0, 8);
         e.is("the first's becomes the most", x.levels(0, 3), 0);
         e.is("again", x.levels(0, 3), 3);
         e.is("and the least", x.levels(0, 0), 3);
@@ -206,13 +195,13 @@ final class DoorEdges {
         e.leavesState(x, "what it was", 2, () -> x.levels(7, 2));
         e.at("Promise 6", "BAD");
         e.badNumbers(x, new int[][] {{0, 7}, {0, 3}}, n -> x.levels(n[0], n[1]));
-        BadgeDoors y = house(0, 1);
+        BadgeDoors y = Due.house(0, 1);
         e.badNumbers(y, new int[][] {{0, 0}}, n -> y.levels(n[0], 1));
     }
 
     private void bars() {
         e.at("Promise 7", "A BADGE is BARRED (1) or not (0): what it was");
-        BadgeDoors x = house(0, 8);
+        BadgeDoors x = Due.house(0, 8);
         e.is("not, as at first", x.bars(0, 0), 0);
         e.is("BARRED", x.bars(0, 1), 0);
         e.is("BARRED again", x.bars(0, 1), 1);
@@ -225,13 +214,13 @@ final class DoorEdges {
         e.leavesState(x, "not, as it was", 0, () -> x.bars(3, 0));
         e.at("Promise 7", "BAD");
         e.badNumbers(x, new int[][] {{0, 7}, {0, 1}}, n -> x.bars(n[0], n[1]));
-        BadgeDoors y = house(0, 1);
+        BadgeDoors y = Due.house(0, 1);
         e.badNumbers(y, new int[][] {{0, 0}}, n -> y.bars(n[0], 1));
     }
 
     private void online() {
         e.at("Promise 8", "A DOOR is ONLINE (1; its NOTES are MERGED) or not (0; its COPY is taken): how many NOTES were MERGED");
-        BadgeDoors x = house(8, 2);
+        BadgeDoors x = Due.house(8, 2);
         e.is("off", x.online(7, 0), 0);
         e.is("no NOTES", x.online(7, 1), 0);
         x.online(7, 0);
@@ -261,7 +250,7 @@ final class DoorEdges {
 
     private void onlineRefused() {
         e.at("Promise 8", "BAD; NO: it is so");
-        BadgeDoors x = house(8, 1);
+        BadgeDoors x = Due.house(8, 1);
         e.badNumbers(x, new int[][] {{0, 7}, {0, 1}}, n -> x.online(n[0], n[1]));
         e.refused(x, "ONLINE at first", NO, () -> x.online(7, 1));
         x.online(7, 0);
@@ -272,7 +261,7 @@ final class DoorEdges {
         e.is("its COPY stays", x.asks(0, 7, 0), 0);
         x.online(7, 1);
         e.refused(x, "ONLINE", NO, () -> x.online(7, 1));
-        BadgeDoors y = house(1, 0);
+        BadgeDoors y = Due.house(1, 0);
         e.badNumbers(y, new int[][] {{0, 0}}, n -> y.online(n[0], 0));
     }
 }

@@ -23,6 +23,18 @@ final class Due {
         return wrong;
     }
 
+    /** A house with DOORS from OUTSIDE to 1 that all may pass, and BADGES of LEVEL 0. */
+    static BadgeDoors house(int doors, int badges) {
+        BadgeDoors x = new BadgeDoors();
+        for (int d = 0; d < doors; d++) {
+            x.door(0, 1, 0, 0);
+        }
+        for (int b = 0; b < badges; b++) {
+            x.badge(0);
+        }
+        return x;
+    }
+
     /** Types a text anew. */
     static void type(BadgeDoors x, String text) {
         x.clear();
@@ -42,12 +54,14 @@ final class Due {
         for (int what = 0; what < 7; what++) {
             h = 31 * h + x.told(what);
         }
-        for (int d = 0; d < x.told(4); d++) {
+        int doors = x.told(4);
+        for (int d = 0; d < doors; d++) {
             for (int what = 0; what < 11; what++) {
                 h = 31 * h + x.of(d, what);
             }
         }
-        for (int b = 0; b < x.told(5); b++) {
+        int badges = x.told(5);
+        for (int b = 0; b < badges; b++) {
             for (int what = 0; what < 6; what++) {
                 h = 31 * h + x.about(b, what);
             }
@@ -55,7 +69,8 @@ final class Due {
         for (int what = 0; what < 12; what++) {
             h = 31 * h + x.count(what);
         }
-        for (int i = 0; i < x.count(11); i++) {
+        int twos = x.count(11);
+        for (int i = 0; i < twos; i++) {
             for (int what = 0; what < 3; what++) {
                 h = 31 * h + x.passed(i, what);
             }

@@ -24,20 +24,9 @@ final class HappeningEdges {
         count();
     }
 
-    private static BadgeDoors house(int doors, int badges) {
-        BadgeDoors x = new BadgeDoors();
-        for (int d = 0; d < doors; d++) {
-            x.door(0, 1, 0, 0);
-        }
-        for (int b = 0; b < badges; b++) {
-            x.badge(0);
-        }
-        return x;
-    }
-
     private void asks() {
         e.at("Promise 9", "ASKING, with DURESS (1) or without: 0 LET (or it passes), else 1 to 5 as told");
-        BadgeDoors x = house(8, 8);
+        BadgeDoors x = Due.house(8, 8);
         e.is("the first at the first", x.asks(0, 0, 0), 0);
         e.is("the last at the last", x.asks(7, 7, 1), 0);
         x.online(7, 0);
@@ -69,13 +58,13 @@ final class HappeningEdges {
 
     private void asksRefused() {
         e.at("Promise 9", "BAD");
-        BadgeDoors x = house(8, 8);
+        BadgeDoors x = Due.house(8, 8);
         e.badNumbers(x, new int[][] {{0, 7}, {0, 7}, {0, 1}}, n -> x.asks(n[0], n[1], n[2]));
-        BadgeDoors y = house(1, 1);
+        BadgeDoors y = Due.house(1, 1);
         e.badNumbers(y, new int[][] {{0, 0}, {0, 0}, {0, 1}}, n -> y.asks(n[0], n[1], n[2]));
-        BadgeDoors doorsAlone = house(1, 0);
+        BadgeDoors doorsAlone = Due.house(1, 0);
         e.refused(doorsAlone, "no BADGES", BAD, () -> doorsAlone.asks(0, 0, 0));
-        BadgeDoors badgesAlone = house(0, 1);
+        BadgeDoors badgesAlone = Due.house(0, 1);
         e.refused(badgesAlone, "no DOORS", BAD, () -> badgesAlone.asks(0, 0, 0));
     }
 
@@ -95,7 +84,7 @@ final class HappeningEdges {
 
     private void of() {
         e.at("Promise 11", "Of a DOOR: FROM (what 0), TO (1), DAY LEVEL (2), NIGHT LEVEL (3), BACK (4), PAIR (5), LOCK (6; NONE), ONLINE (7: 1, 0), whether it is OPEN (8), the BADGE that WAITS (9; NONE), NOTES (10)");
-        BadgeDoors x = house(7, 8);
+        BadgeDoors x = Due.house(7, 8);
         x.door(5, 4, 3, 2);
         x.badge(0);
         x.levels(7, 3);
@@ -117,7 +106,7 @@ final class HappeningEdges {
         sameFacts(x, 0, itsLock);
         e.at("Promise 11", "BAD");
         e.badNumbers(x, new int[][] {{0, 7}, {0, 10}}, n -> x.of(n[0], n[1]));
-        BadgeDoors y = house(1, 0);
+        BadgeDoors y = Due.house(1, 0);
         e.badNumbers(y, new int[][] {{0, 0}, {0, 10}}, n -> y.of(n[0], n[1]));
     }
 
@@ -150,13 +139,13 @@ final class HappeningEdges {
         }
         e.at("Promise 12", "BAD");
         e.badNumbers(x, new int[][] {{0, 7}, {0, 5}}, n -> x.about(n[0], n[1]));
-        BadgeDoors y = house(0, 1);
+        BadgeDoors y = Due.house(0, 1);
         e.badNumbers(y, new int[][] {{0, 0}, {0, 5}}, n -> y.about(n[0], n[1]));
     }
 
     private void note() {
         e.at("Promise 13", "Of the i-th NOTE of a DOOR (0 on): TIME (what 0), BADGE (1); NONE: not so many");
-        BadgeDoors x = house(8, 8);
+        BadgeDoors x = Due.house(8, 8);
         e.asked(x, "none at all", NONE, () -> x.note(7, 0, 0));
         x.online(7, 0);
         x.waits(30);
@@ -176,13 +165,13 @@ final class HappeningEdges {
         e.at("Promise 13", "BAD: i below 0, too");
         e.badNumbers(x, new int[][] {{0, 7}, {0, MOST}, {0, 1}}, n -> x.note(n[0], n[1], n[2]));
         e.refused(x, "BAD before NONE", BAD, () -> x.note(7, 20, 2));
-        BadgeDoors y = house(1, 0);
+        BadgeDoors y = Due.house(1, 0);
         e.badNumbers(y, new int[][] {{0, 0}}, n -> y.note(n[0], 0, 0));
     }
 
     private void inside() {
         e.at("Promise 14", "How many BADGES are IN an AREA (what 0), which (1, bits)");
-        BadgeDoors x = house(1, 0);
+        BadgeDoors x = Due.house(1, 0);
         e.asked(x, "none", 0, () -> x.inside(0, 0));
         for (int b = 0; b < 8; b++) {
             x.badge(0);
@@ -206,7 +195,7 @@ final class HappeningEdges {
 
     private void muster() {
         e.at("Promise 15", "MUSTER but for an AREA (0: none more), as bits");
-        BadgeDoors x = house(1, 8);
+        BadgeDoors x = Due.house(1, 8);
         x.door(0, 5, 0, 0);
         e.asked(x, "all OUTSIDE", 0, () -> x.muster(0));
         for (int b = 0; b < 8; b++) {
@@ -244,20 +233,20 @@ final class HappeningEdges {
 
     private void wayRefused() {
         e.at("Promise 16", "BAD: a alike c, i below -1, too");
-        BadgeDoors x = house(1, 8);
+        BadgeDoors x = Due.house(1, 8);
         for (int area = 0; area < 6; area++) {
             int a = area;
             e.refused(x, "alike " + a, BAD, () -> x.way(0, a, a, NONE));
         }
         e.badNumbers(x, new int[][] {{0, 7}, {0, 5}, {1, 5}, {NONE, MOST}}, n -> x.way(n[0], n[1], n[2], n[3]));
         e.refused(x, "c -1", BAD, () -> x.way(0, 5, -1, NONE));
-        BadgeDoors y = house(1, 1);
+        BadgeDoors y = Due.house(1, 1);
         e.badNumbers(y, new int[][] {{0, 0}}, n -> y.way(n[0], 0, 1, NONE));
     }
 
     private void passed() {
         e.at("Promise 17", "Of the i-th two (0 on) that PASSED: the BADGE (what 0), the DOOR (1), how often (2); NONE: not so many");
-        BadgeDoors x = house(8, 8);
+        BadgeDoors x = Due.house(8, 8);
         e.asked(x, "none at all", NONE, () -> x.passed(0, 2));
         x.asks(7, 7, 0);
         e.asked(x, "the first's BADGE", 7, () -> x.passed(0, 0));

@@ -44,16 +44,6 @@ final class TermEdges {
         wayOfLikeOnes();
     }
 
-    /** A house with one DOOR from OUTSIDE to 1 that all may pass, and some BADGES of LEVEL 0. */
-    private static BadgeDoors house(int badges) {
-        BadgeDoors x = new BadgeDoors();
-        x.door(0, 1, 0, 0);
-        for (int b = 0; b < badges; b++) {
-            x.badge(0);
-        }
-        return x;
-    }
-
     private void timeAtFirst() {
         e.at("What it is", "TIME is 0 at first; HOUR");
         BadgeDoors x = new BadgeDoors();
@@ -90,7 +80,7 @@ final class TermEdges {
     }
 
     private void lastAsks() {
-        BadgeDoors x = house(1);
+        BadgeDoors x = Due.house(1, 1);
         x.online(0, 0);
         for (int k = 4; k <= 511; k++) {
             e.is("asks(0, 0, 1), call " + k, x.asks(0, 0, 1), 0);
@@ -238,7 +228,7 @@ final class TermEdges {
     }
 
     private void badgeAtFirst() {
-        BadgeDoors x = house(0);
+        BadgeDoors x = Due.house(1, 0);
         x.waits(30);
         e.at("Terms", "a LEVEL (0 .. 3)");
         e.is("the least", x.badge(0), 0);
@@ -261,7 +251,7 @@ final class TermEdges {
 
     private void open() {
         e.at("Terms", "A DOOR is OPEN, if it let someone at this TIME");
-        BadgeDoors x = house(2);
+        BadgeDoors x = Due.house(1, 2);
         e.is("none yet, at TIME 0", x.of(0, 8), 0);
         x.bars(0, 1);
         x.asks(0, 0, 0);
@@ -318,7 +308,7 @@ final class TermEdges {
 
     private void shut() {
         e.at("Terms", "1 SHUT: its LOCK is OPEN.");
-        BadgeDoors x = house(2);
+        BadgeDoors x = Due.house(1, 2);
         x.door(0, 1, 0, 0);
         x.door(1, 0, 0, 0);
         e.is("LET", x.asks(0, 0, 0), 0);
@@ -378,7 +368,7 @@ final class TermEdges {
     private void twice() {
         e.at("Terms", "4 TWICE: BACK is HARD, and IN is not FROM.");
         for (int back = 0; back < 3; back++) {
-            BadgeDoors x = house(1);
+            BadgeDoors x = Due.house(1, 1);
             x.sets(0, 0, back);
             e.is("IN is FROM", x.asks(0, 0, 0), 0);
             e.is("no FLAW", x.count(2), 0);
@@ -390,7 +380,7 @@ final class TermEdges {
 
     private void alone() {
         e.at("Terms", "5 ALONE: PAIR is 1, and no other BADGE WAITS there");
-        BadgeDoors x = house(3);
+        BadgeDoors x = Due.house(1, 3);
         x.door(0, 1, 0, 0);
         x.sets(1, 1, 1);
         e.is("PAIR is 0", x.asks(0, 0, 0), 0);
@@ -404,7 +394,7 @@ final class TermEdges {
 
     private void whoWaits() {
         e.at("Terms", "(the first BADGE that was ALONE there at this TIME WAITS");
-        BadgeDoors x = house(3);
+        BadgeDoors x = Due.house(1, 3);
         x.sets(0, 1, 1);
         x.bars(1, 1);
         e.is("none yet", x.of(0, 9), NONE);
@@ -426,7 +416,7 @@ final class TermEdges {
 
     private void endOfWaiting() {
         e.at("Terms", "none, when TIME goes by, when two were let)");
-        BadgeDoors x = house(3);
+        BadgeDoors x = Due.house(1, 3);
         x.door(0, 2, 0, 0);
         x.sets(0, 1, 1);
         x.sets(1, 1, 1);
@@ -450,7 +440,7 @@ final class TermEdges {
 
     private void letWithAnother() {
         e.at("Terms", "Else LET; with PAIR the one that WAITS, too, after it.");
-        BadgeDoors x = house(3);
+        BadgeDoors x = Due.house(1, 3);
         x.door(0, 2, 0, 0);
         x.sets(0, 0, 1);
         x.sets(0, 1, 1);
@@ -547,7 +537,7 @@ final class TermEdges {
         x.online(0, 0);
         e.is("in the next COPY", x.asks(7, 0, 0), 0);
         e.is("in the next COPY it is BARRED", x.asks(0, 0, 0), 2);
-        BadgeDoors y = house(0);
+        BadgeDoors y = Due.house(1, 0);
         y.online(0, 0);
         y.badge(3);
         e.is("in a COPY of no BADGES", y.asks(0, 0, 0), 2);
@@ -555,7 +545,7 @@ final class TermEdges {
 
     private void notes() {
         e.at("Terms", "else it passes: the DOOR is OPEN; its NOTES have one more (TIME, BADGE, DOOR; 20 of a DOOR at most, what is more is not noted)");
-        BadgeDoors x = house(2);
+        BadgeDoors x = Due.house(1, 2);
         x.door(0, 1, 0, 0);
         x.online(0, 0);
         x.online(1, 0);
@@ -602,7 +592,7 @@ final class TermEdges {
 
     private void mergingOrder() {
         e.at("Terms", "its NOTES, by TIME, of like ones as they came, then it has none");
-        BadgeDoors x = house(2);
+        BadgeDoors x = Due.house(1, 2);
         x.sets(0, 0, 1);
         x.online(0, 0);
         x.asks(1, 0, 0);
@@ -630,7 +620,7 @@ final class TermEdges {
     private void merging() {
         e.at("Terms", "if its TIME is SINCE of the BADGE or more");
         for (int when = 9; when <= 11; when++) {
-            BadgeDoors x = house(1);
+            BadgeDoors x = Due.house(1, 1);
             x.door(1, 2, 0, 0);
             x.sets(1, 0, 1);
             x.online(1, 0);
@@ -651,7 +641,7 @@ final class TermEdges {
             e.is("LATE by " + when, x.count(3), when < 10 ? 1 : 0);
         }
         e.at("Terms", "else it is LATE.");
-        BadgeDoors x = house(1);
+        BadgeDoors x = Due.house(1, 1);
         x.door(1, 2, 0, 0);
         x.sets(1, 0, 2);
         x.online(1, 0);
@@ -665,7 +655,7 @@ final class TermEdges {
         e.is("LATE ones are no FLAWS", x.count(2), 0);
         e.at("Terms", "if BACK of the DOOR is not 0 and IN is not FROM, it is a FLAW; IN is TO, SINCE that TIME");
         for (int back = 0; back < 3; back++) {
-            BadgeDoors y = house(1);
+            BadgeDoors y = Due.house(1, 1);
             y.sets(0, 0, back);
             y.online(0, 0);
             y.asks(0, 0, 0);
@@ -677,7 +667,7 @@ final class TermEdges {
 
     private void passedOrder() {
         e.at("Terms", "of each BADGE and DOOR how often it passed (ONLINE or not), in the order in which each such two first came");
-        BadgeDoors x = house(2);
+        BadgeDoors x = Due.house(1, 2);
         x.door(0, 1, 0, 0);
         x.online(1, 0);
         x.asks(1, 1, 0);

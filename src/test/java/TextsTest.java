@@ -243,8 +243,9 @@ public final class TextsTest {
         BadgeDoors x = new BadgeDoors();
         int[] door = {1, 2, 1, 1, 0, 0, -1, 1, 0, -1, 0};
         int[] badge = {2, 0, 0, 0, 0, 0};
+        Due.type(x, "door 0 1 0 0;door 1 0 0 0;badge 3;badge 3;wait 5;duress 0 0;ask 1 0;off 0;ask 0 0;bar 0;bar 1;");
         for (int round = 0; round < 6; round++) {
-            Due.read(x, "door 0 1 0 0;door 1 0 0 0;badge 3;badge 3;wait 5;duress 0 0;ask 1 0;off 0;ask 0 0;bar 0;bar 1;");
+            x.reads();
             x.sets(0, round % 2, 1);
             x.sets(0, 1 - round % 2, 1);
             x.locks(0, 1);
